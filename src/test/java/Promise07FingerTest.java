@@ -6,8 +6,9 @@ public final class Promise07FingerTest {
         configuredThreshold();
         configuredClassAndPeriod();
         authorisationEndsWithTime();
-        keepsNoMemoryOfLapsedCertificates();
+        asksNotWhetherCertificatesAreStillValid();
         mismatchTurnsAway();
+        takesTheLowestAndHighestSample();
         refusesInOrder();
         Check.end();
     }
@@ -91,7 +92,7 @@ public final class Promise07FingerTest {
         authorisation(station, 6, 5, 4, 99950, 100000, station.signature(3, 6, 5, 4, 99950, 100000), 1);
     }
 
-    private static void keepsNoMemoryOfLapsedCertificates() {
+    private static void asksNotWhetherCertificatesAreStillValid() {
         SecureEntry station = Stations.up();
         Stations.giveGood(station, 0, 5, 4);
         Stations.certifyRightly(station, 0, 2, 0, 5, Stations.TEMPLATE, 3);
@@ -111,6 +112,11 @@ public final class Promise07FingerTest {
         Check.due("the reader", 0, station.count(9));
         Check.refused(station, Check.NO_ELEMENT, "authorisation after a mismatch", () -> station.certificate(0, 3, 0));
         Check.refused(station, Check.STATE, "finger in the state WAIT", () -> station.finger(Stations.TEMPLATE));
+    }
+
+    private static void takesTheLowestAndHighestSample() {
+        Check.due("finger(0)", 3, Stations.upForFinger(4).finger(0));
+        Check.due("finger(65535)", 3, Stations.upForFinger(4).finger(65535));
     }
 
     private static void refusesInOrder() {

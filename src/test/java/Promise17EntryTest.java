@@ -3,6 +3,7 @@ public final class Promise17EntryTest {
         tellsKindTimeAndHolder();
         losesTheFourOldest();
         losesAgain();
+        keepsKindAndHolderTogether();
         refusesInOrder();
         Check.end();
     }
@@ -47,6 +48,19 @@ public final class Promise17EntryTest {
         Check.due("entries after the 21st", 13, station.count(7));
         Check.due("the oldest", 8, station.entry(0, 1));
         Check.due("the newest", 20, station.entry(12, 1));
+    }
+
+    private static void keepsKindAndHolderTogether() {
+        SecureEntry station = Stations.upWith(Stations.GUARD);
+        for (int turn = 0; turn < 5; turn++) {
+            Stations.certifyRightly(station, 0, 0, 0, 60 + turn, 0, Stations.ALWAYS);
+            station.insert(0);
+            station.remove();
+            station.pass(1);
+            station.override();
+        }
+        Check.log(station, "after a 17th", 12, 1, 50, 2, 1, 61, 3, 1, 61, 12, 2, 50, 2, 2, 62,
+                3, 2, 62, 12, 3, 50, 2, 3, 63, 3, 3, 63, 12, 4, 50, 2, 4, 64, 3, 4, 64, 12, 5, 50);
     }
 
     private static void refusesInOrder() {
