@@ -511,7 +511,7 @@ public final class SecureEntry {
         static final int FINGER = 2;
         static final int AUTHORISATION = 3;
         static final int KINDS = 4;
-        static final int HIGHEST_RIGHT = 15;
+        static final int HIGHEST_ROLE_VALUE = 15;
 
         final int kind;
         final int issuer;
@@ -533,9 +533,9 @@ public final class SecureEntry {
 
         boolean isFitForItsKind() {
             if (kind == AUTHORISATION) {
-                return issuer == STATION && value <= HIGHEST_RIGHT;
+                return issuer == STATION && value <= HIGHEST_ROLE_VALUE;
             }
-            return kind != PRIVILEGE || value <= HIGHEST_RIGHT;
+            return kind != PRIVILEGE || value <= HIGHEST_ROLE_VALUE;
         }
 
         int clearance() {

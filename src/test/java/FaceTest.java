@@ -71,7 +71,7 @@ public final class FaceTest {
             Check.tell("the class is not public and final");
         }
         Check.due("constructors", 1, SecureEntry.class.getDeclaredConstructors().length);
-        Check.due("public constructors without parameters", 0,
+        Check.due("parameters of the public constructor", 0,
                 SecureEntry.class.getConstructors()[0].getParameterCount());
         for (Field field : SecureEntry.class.getDeclaredFields()) {
             if (!Modifier.isPrivate(field.getModifiers())) {
