@@ -1,5 +1,4 @@
 import java.util.NoSuchElementException;
-import java.util.function.IntSupplier;
 
 /** Counts what is not as due; a test that ends with such a count has the exit code 1. */
 final class Check {
@@ -25,18 +24,6 @@ final class Check {
         }
     }
 
-    static void refused(SecureEntry station, Class<? extends RuntimeException> want, String call, IntSupplier made) {
-        String before = Stations.glance(station);
-        String answer;
-        try {
-            answer = "the answer " + made.getAsInt();
-        } catch (RuntimeException thrown) {
-            answer = thrown.getClass().getName();
-        }
-        same("what comes of " + call, want.getName(), answer);
-        same("the state after the refused " + call, before, Stations.glance(station));
-    }
-
     static void counts(SecureEntry station, String when, int... want) {
         for (int what = 0; what < want.length; what++) {
             due("count(" + what + ") " + when, want[what], station.count(what));
@@ -45,12 +32,34 @@ final class Check {
 
     /** The log's entries, each as kind, time and holder in a row. */
     static void log(SecureEntry station, String when, int... want) {
-        due("count(7) " + when, want.length / 3, station.count(7));
+        int entries = station.count(7);
+        due("count(7) " + when, want.length / 3, entries);
         for (int place = 0; place < want.length; place++) {
-            if (place / 3 < station.count(7)) {
+            if (place / 3 < entries) {
                 String call = "entry(" + place / 3 + ", " + place % 3 + ") " + when;
                 due(call, want[place], station.entry(place / 3, place % 3));
             }
+        }
+    }
+
+    /** The newest entries of the log, each as kind, time and holder in a row. */
+    static void newest(SecureEntry station, String when, int... want) {
+        int first = station.count(7) - want.length / 3;
+        if (first < 0) {
+            tell("the log " + when + " has only " + station.count(7) + " entries");
+            return;
+        }
+        for (int place = 0; place < want.length; place++) {
+            String call = "entry(" + (first + place / 3) + ", " + place % 3 + ") " + when;
+            due(call, want[place], station.entry(first + place / 3, place % 3));
+        }
+    }
+
+    /** A token's certificate: issuer, holder, value, from, to, signature and validity in a row. */
+    static void certificate(SecureEntry station, int token, int kind, int... want) {
+        for (int what = 0; what < want.length; what++) {
+            String call = "certificate(" + token + ", " + kind + ", " + what + ")";
+            due(call, want[what], station.certificate(token, kind, what));
         }
     }
 

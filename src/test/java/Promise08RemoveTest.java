@@ -1,51 +1,39 @@
 public final class Promise08RemoveTest {
     public static void main(String[] args) {
-        afterEnterUnlocks();
+        enterUnlocks();
+        fingerIsTooEarly();
+        waitDoesNothingMore();
+        enterThatIsOutOfTimeDoesNotUnlock();
+        answersTheToken();
+        thenIdle();
+        theInnerReaderStays();
         configuredUnlocking();
-        afterFingerIsTooEarly();
-        afterWaitDoesNothingMore();
-        refuses();
+        noneIsThere();
+        whileDown();
         Check.end();
     }
 
-    private static void afterEnterUnlocks() {
-        SecureEntry station = Stations.upForFinger(4);
-        station.finger(Stations.TEMPLATE);
+    /** "State ENTER: unlocking", without an entry of its own. */
+    private static void enterUnlocks() {
+        SecureEntry station = Stations.upForEntry();
         station.pass(2);
         Check.due("remove() in the state ENTER", 0, station.remove());
-        Check.counts(station, "after remove", 1, 0, 0, 1, 0, 0, 0, 4, 2, -1, -1);
+        Check.counts(station, "after remove", 1, 0, 0, 1, 0, 0, 0, 3, 2, -1, -1);
         station.door(true);
-        Check.due("entries", 4, station.count(7));
-        station.pass(4);
-        Check.due("unlocked at 6", 1, station.count(3));
-        station.pass(1);
-        Check.due("unlocked at 7", 0, station.count(3));
-        station.pass(9);
+        int[] unlocked = {1, 1, 1, 1, 1, 0, 0};
+        for (int second = 0; second < unlocked.length; second++) {
+            Check.due("unlocked after " + second, unlocked[second], station.count(3));
+            station.pass(1);
+        }
+        Stations.passTo(station, 16);
         Check.due("alarm at 16", 0, station.count(5));
         station.pass(1);
         Check.due("alarm at 17", 1, station.count(5));
+        Check.due("entries", 3, station.count(7));
     }
 
-    private static void configuredUnlocking() {
-        SecureEntry station = Stations.upWith(Stations.OFFICER);
-        station.configure(0, 0);
-        Stations.giveAuthorisation(station, 1, 5, 0, Stations.ALWAYS);
-        station.insert(1);
-        station.remove();
-        Check.due("unlocked for 0 seconds", 0, station.count(3));
-        station.configure(0, 1);
-        station.configure(1, 0);
-        station.insert(1);
-        station.remove();
-        station.door(true);
-        Check.due("unlocked for a second", 1, station.count(3));
-        Check.due("alarm while unlocked", 0, station.count(5));
-        station.pass(1);
-        Check.due("unlocked after a second", 0, station.count(3));
-        Check.due("alarm without silence", 1, station.count(5));
-    }
-
-    private static void afterFingerIsTooEarly() {
+    /** "FINGER: entry 8." */
+    private static void fingerIsTooEarly() {
         SecureEntry station = Stations.upForFinger(4);
         station.pass(2);
         Check.due("remove() in the state FINGER", 0, station.remove());
@@ -53,22 +41,91 @@ public final class Promise08RemoveTest {
         Check.counts(station, "after remove", 1, 0, 0, 0, 0, 0, 0, 3, 2, -1, -1);
     }
 
-    private static void afterWaitDoesNothingMore() {
-        SecureEntry station = Stations.up();
-        station.insert(4);
-        Check.due("remove() in the state WAIT", 4, station.remove());
+    private static void waitDoesNothingMore() {
+        SecureEntry station = Stations.upForRemoval();
+        Check.due("remove() in the state WAIT", 0, station.remove());
         Check.counts(station, "after remove", 1, 0, 0, 0, 0, 0, 0, 3, 0, -1, -1);
-        Check.due("insert of it again", 3, station.insert(4));
+        Check.log(station, "after remove", 1, 0, -1, 2, 0, -1, 3, 0, -1);
     }
 
-    private static void refuses() {
-        SecureEntry down = Stations.enrolled();
-        Check.refused(down, Check.STATE, "remove() while DOWN", down::remove);
-        SecureEntry station = Stations.up();
-        station.logon(2);
-        Check.refused(station, Check.STATE, "remove() of none", station::remove);
-        station.insert(1);
+    private static void enterThatIsOutOfTimeDoesNotUnlock() {
+        SecureEntry early = Stations.upForEntry();
+        early.pass(19);
+        early.remove();
+        Check.due("unlocked by remove() after 19 seconds", 1, early.count(3));
+        SecureEntry late = Stations.upForEntry();
+        late.pass(20);
+        late.remove();
+        Check.due("unlocked by remove() after 20 seconds", 0, late.count(3));
+        SecureEntry finger = Stations.upForFinger(4);
+        finger.pass(20);
+        finger.remove();
+        Check.newest(finger, "after remove", 6, 20, 5);
+    }
+
+    private static void answersTheToken() {
+        for (int token = 0; token < 6; token++) {
+            SecureEntry station = Stations.up();
+            station.insert(token);
+            Check.due("remove()", token, station.remove());
+            Check.due("the outer reader", -1, station.count(9));
+        }
+    }
+
+    /** "Then IDLE": a token may come in again, and no time runs out. */
+    private static void thenIdle() {
+        SecureEntry station = Stations.upForFinger(4);
         station.remove();
-        Check.refused(station, Check.STATE, "remove() twice", station::remove);
+        station.pass(100);
+        Check.due("user state", 0, station.count(1));
+        Check.due("entries", 3, station.count(7));
+        Check.due("insert of it again", 1, station.insert(0));
+        station.remove();
+        Check.due("insert of another", 3, station.insert(1));
+    }
+
+    private static void theInnerReaderStays() {
+        SecureEntry station = Stations.upWith(Stations.GUARD);
+        station.insert(0);
+        station.remove();
+        Check.counts(station, "after remove", 1, 0, 1, 0, 0, 0, 0, 4, 0, -1, 5);
+    }
+
+    private static void configuredUnlocking() {
+        int[] latches = {0, 1, 1000};
+        for (int latch : latches) {
+            SecureEntry station = Stations.upWith(Stations.OFFICER);
+            station.configure(0, latch);
+            Stations.giveAuthorisation(station, 1, 5, 0, Stations.ALWAYS);
+            station.insert(1);
+            station.remove();
+            Check.due("unlocked for " + latch + " seconds", latch == 0 ? 0 : 1, station.count(3));
+            Stations.passTo(station, latch - 1);
+            Check.due("unlocked before the end of " + latch, latch == 0 ? 0 : 1, station.count(3));
+            Stations.passTo(station, latch);
+            Check.due("unlocked at the end of " + latch, 0, station.count(3));
+        }
+    }
+
+    /** "IllegalStateException: none is there." */
+    private static void noneIsThere() {
+        Refusal.due(Check.STATE, "remove() of none", Stations::up, SecureEntry::remove);
+        Refusal.due(Check.STATE, "remove() beside a filled inner reader", () -> Stations.upWith(Stations.GUARD),
+                SecureEntry::remove);
+        Refusal.due(Check.STATE, "remove() a second time", () -> {
+            SecureEntry station = Stations.upForEntry();
+            station.remove();
+            return station;
+        }, SecureEntry::remove);
+    }
+
+    private static void whileDown() {
+        Refusal.due(Check.STATE, "remove() while DOWN", Stations::enrolled, SecureEntry::remove);
+        Refusal.due(Check.STATE, "remove() after shutdown", () -> {
+            SecureEntry station = Stations.upWith(Stations.OFFICER);
+            station.insert(0);
+            station.shutdown();
+            return station;
+        }, SecureEntry::remove);
     }
 }
